@@ -5,6 +5,7 @@ public final class AdviceTest {
         dull();
         fewest();
         fewestIsTheBestOfAllRows();
+        fewestOfOneHotelBehindAnother();
         Due.end();
     }
 
@@ -28,6 +29,7 @@ public final class AdviceTest {
         Due.is("of one cost the first doing, then the first guest", y.ask(7), 1);
         Due.is("1 ahead of 2", y.ask(6), 11);
         Due.is("2 alone", y.ask(4), 21);
+        Due.is("the first doing, if it costs as little as another", Due.at("z15/91/91/92;g00;g91").ask(2), 10);
         StarLess z = Due.at("z14/11/90/91;c00;g31;p22");
         Due.is("the least cost", z.ask(7), 1);
         Due.is("by doing, then guest", z.ask(6), 11);
@@ -78,6 +80,17 @@ public final class AdviceTest {
         row(alike, 0, 0, 1);
         StarLess all = Due.at("z19/11/11/11;p00;p02");
         row(all, 0, 0, 2);
+    }
+
+    private static void fewestOfOneHotelBehindAnother() {
+        StarLess x = Due.at("z19/93/10;g90;g90;g90;g90;g91;g91");
+        row(x, 6, 0, 0, 0, 0, 1, 1);
+        Due.is("four who pay all 12", Due.read(x, "z11/93/03;g90;g90;g90;g90"), 4);
+        row(x, 4, 0, 0, 0, 0);
+        Due.is("five who pay nothing", Due.read(x, "z11/90;g90;g90;g90;g90;g90"), 5);
+        row(x, 5, 0, 0, 0, 0, 0);
+        Due.is("two who pay nothing", Due.read(x, "z12/10;g00;c00"), 2);
+        row(x, 2, 0, 0);
     }
 
     private static void row(StarLess x, int... want) {

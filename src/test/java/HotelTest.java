@@ -73,6 +73,9 @@ public final class HotelTest {
         fault("z26/9", 5);
         fault("z26/94", 5);
         fault("z26/9/", 5);
+        fault("z26/9;g90;g90", 5);
+        fault("z26/;g90;g90", 4);
+        fault("z26/90/9;g90;g90", 8);
         fault("z26/93", 6);
         fault("z26/93g", 6);
         fault("z26/93;", 7);

@@ -143,6 +143,9 @@ public final class ReadingTest {
         share(x, 7, 5, 0, 1);
         share(x, 2, 1, 3, 4);
         share(x, 0, 2, 1, 1);
+        Due.is("from cell 4 on", x.odds(1, 1, 4, 3, 2, 0), 1);
+        Due.is("from cell 4 on, two pairs", x.odds(1, 1, 4, 2, 2, 0), 3);
+        Due.is("from cell 4 on", x.odds(1, 1, 4, 2, 2, 1), 4);
         StarLess six = Due.at("z11/10;g90;g90;c00;c00;c00;c00");
         Due.fill(six, 1, 1, 0, 0, 1, 0);
         share(six, 2, 1, 2, 3);

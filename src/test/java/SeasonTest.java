@@ -115,6 +115,8 @@ public final class SeasonTest {
         int[] want5 = {0, 0, 0b1000, 0b0001, 0b0010, 0b0100};
         for (int v = 0; v < 6; v++) Due.is("may of 5", x.may(1, 1, 0, 7, v), want5[v]);
         Due.is("by nothing", x.may(1, 1, 14, 0, 5), 0b1111);
+        Due.is("from cell 4 on", x.may(1, 1, 4, 3, 4), 0b1010);
+        Due.is("from cell 8 on", x.may(1, 1, 8, 3, 2), 0b1000);
     }
 
     private static void mayRefuses() {

@@ -36,6 +36,9 @@ public final class SheetTest {
         }
         Due.is("new row", x.sheet(1, 2, 60), 1);
         Due.is("0 at first", x.cell(1, 59, 2), 0);
+        Due.is("put", x.put(1, 0, 8), 1);
+        Due.is("new row", x.sheet(1, 2, 60), 1);
+        Due.is("0 at first", x.cell(1, 0, 2), 0);
         Due.is("of its lane", x.cell(1, 59, 1), Due.LOST);
         Due.is("the others stay", x.cell(2, 59, 2), 7);
         Due.is("a row of none", x.sheet(1, 0, 0), 1);
