@@ -124,7 +124,7 @@ public final class StarLess {
         if (!house.isOpen()) return STATE;
         if (set < 0 || set >= 1 << house.guests) return OUTSIDE;
         int best = NONE;
-        int least = Integer.MAX_VALUE;
+        int least = PURSE + 1;
         for (int d = 0; d < house.doings; d++) {
             int shown = set & house.wonBy(d);
             if (shown != 0 && house.cost[d] < least) {
@@ -594,7 +594,8 @@ public final class StarLess {
     private static final class Plan {
         // one more who is won outweighs all pleasure that six GUESTS can have (126)
         private static final int ONE_WON = 1000;
-        private static final int NEVER = Integer.MAX_VALUE;
+        // more than any row of doings weighs
+        private static final int NEVER = 1000000;
 
         private final int[][] least = new int[MOST_GUESTS + 1][PURSE + 1];
         private final int[] doing = new int[MOST_GUESTS];

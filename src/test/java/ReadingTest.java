@@ -146,6 +146,9 @@ public final class ReadingTest {
         Due.is("from cell 4 on", x.odds(1, 1, 4, 3, 2, 0), 1);
         Due.is("from cell 4 on, two pairs", x.odds(1, 1, 4, 2, 2, 0), 3);
         Due.is("from cell 4 on", x.odds(1, 1, 4, 2, 2, 1), 4);
+        Due.is("from cell 8 on: nobody ends with none but 3", x.odds(1, 1, 8, 3, 1, 0), 3);
+        Due.is("one pair by 3", x.odds(1, 1, 8, 1, 2, 1), 4);
+        Due.is("a pair that pleases none enough", x.odds(1, 1, 6, 1, 2, 1), 1);
         StarLess six = Due.at("z11/10;g90;g90;c00;c00;c00;c00");
         Due.fill(six, 1, 1, 0, 0, 1, 0);
         share(six, 2, 1, 2, 3);
