@@ -245,7 +245,10 @@ public final class EdgeTest {
             place("a digit 0 .. 3 (COST)", "z01/0" + sign + guests, 5);
             place("of a second doing, too", "z01/00/" + sign + "0" + guests, 7);
         }
-        for (char sign : new char[] {'.', '0', ':', 'g'}) place("; ahead of GUESTS, / ahead of DOINGS", "z01/00" + sign, 6);
+        for (char sign : new char[] {'.', '0', ':', '<', 'g', 0}) {
+            place("; ahead of GUESTS, / ahead of DOINGS", "z01/00" + sign + "g00;g00", 6);
+            place("; ahead of a second GUEST, too", "z01/00;g00" + sign + "g00", 10);
+        }
     }
 
     private static void textGuests() {
@@ -518,6 +521,15 @@ public final class EdgeTest {
         is("the fewest GUESTS are PLEASED by STRICT at least", Due.at("z14/00/90;g00;g00").fewest(0), 0);
         is("by STRICT at least: just 3", Due.at("z13/00;g00;g00").fewest(-1), 2);
         is("by STRICT at least: 3 of 4", Due.at("z14/00;g00;g00").fewest(-1), 0);
+        StarLess again = Due.at("z19/93/10;g90;g90;g90;g90;g91;g91");
+        is("one HOTEL", again.fewest(-1), 6);
+        is("asked again", again.fewest(-1), 6);
+        is("four who pay all 12", Due.read(again, "z11/93/02;g90;g90;g90;g90"), 4);
+        int[] dear = {4, 0, 0, 0, 0, NONE};
+        for (int g = -1; g < 5; g++) is("a HOTEL behind another", again.fewest(g), dear[g + 1]);
+        is("three who pay nothing", Due.read(again, "z11/90/01;g90;g90;g90"), 3);
+        int[] cheap = {3, 0, 0, 0, NONE};
+        for (int g = -1; g < 4; g++) is("a HOTEL behind another", again.fewest(g), cheap[g + 1]);
         is("no such GUEST", x.fewest(6), NONE);
         is("no such GUEST", x.fewest(MAX), NONE);
         is("UNKNOWN: g below -1", x.fewest(-2), UNKNOWN);
@@ -568,6 +580,8 @@ public final class EdgeTest {
         is("LIMITS: STRICT 1 .. 9", x.limits(), 0b1111111110);
         is("reading", x.reading(0, 0, true), 0);
         is("just 9 loses by STRICT 9", x.limits(), 0b1111111110);
+        is("in place of what it is alone: STRICT stays", x.many(3), 9);
+        is("in place of what it is alone: STRICT stays", x.ofDoing(0, 2), 0b001);
         is("reading", x.reading(1, 0, true), 1);
         is("just 3 loses by STRICT 3", x.limits(), 0b0000001110);
         is("reading", x.reading(2, 1, false), 2);
@@ -717,6 +731,13 @@ public final class EdgeTest {
             is("an int that wraps, becomes 31 times it and the number", x.trace(), want);
         }
         is("it has wrapped", below ? 1 : 0, 1);
+        StarLess z = Due.at("z01/00;g70;c80;p90");
+        is("GREETED: their number", z.greet(0), 0);
+        is("GREETED by a lent body (4)", z.trace(), 4);
+        is("GREETED: their number", z.greet(1), 1);
+        is("GREETED by a lent body (4)", z.trace(), 4 * 31 + 4);
+        is("POETS have their own: 50", z.greet(2), 50);
+        is("POETS have their own (5)", z.trace(), (4 * 31 + 4) * 31 + 5);
         StarLess y = Due.at("z01/00;p00;p90");
         is("TASTE 0: POET", y.tell(0), 100);
         is("TASTE 9: POET", y.tell(1), 118);
@@ -728,6 +749,8 @@ public final class EdgeTest {
         is("a CRITIC, a GUEST", x.as(1, 0), 1);
         is("a POET, a CRITIC", x.as(2, 1), 1);
         is("a POET, a CRITIC, a GUEST", x.as(2, 0), 1);
+        for (int g = 0; g < 3; g++) is("A GUEST, taken as one of their kind: 1", x.as(g, g), 1);
+        is("GUEST 3 is a GUEST", x.as(3, 0), 1);
         faulty(x, "CAST: they are none", x.as(0, 1), CAST);
         faulty(x, "CAST: they are none", x.as(0, 2), CAST);
         faulty(x, "CAST: they are none", x.as(1, 2), CAST);
